@@ -28,7 +28,7 @@ public final class JobshellQuay {
     private static final int OP_CHAR = 32, OP_QUOTED = 33, OP_MARK = 34, OP_NAME = 35,
             OP_PARAMETER = 36, OP_COUNT = 37, OP_STATUS = 38, OP_LENGTH = 39, OP_NEXT = 40,
             OP_WORD_END = 41;
-    /** Behind these stands the place where they end. */
+    /** Behind these stands the place where they end, or of choices where the second one is. */
     private static final int OP_OR = 48, OP_AND = 49, OP_SUM = 50, OP_COMMAND = 51, OP_CHOICES = 52;
 
     /** Marks beside a char of an expanded word. A MARK item is no char: a quote stood there. */
@@ -1103,7 +1103,7 @@ public final class JobshellQuay {
         void define(Function function) {
             int place = 0;
             int length = function.start - function.nameAt;
-            while (place < functionCount && place < FUNCTIONS_MOST
+            while (place < functionCount && place < FUNCTIONS_MOST && functions[place] != null
                     && !functions[place].isNamed(function.code, function.nameAt, length)) {
                 place++;
             }
@@ -1115,7 +1115,7 @@ public final class JobshellQuay {
 
         Function functionNamedBy(Fields args) {
             for (int i = 0; i < functionCount && i < FUNCTIONS_MOST; i++) {
-                if (functions[i].isNamed(args, 0)) {
+                if (functions[i] != null && functions[i].isNamed(args, 0)) {
                     return functions[i];
                 }
             }
@@ -1158,7 +1158,6 @@ public final class JobshellQuay {
         /** Makes it end with its next step. */
         void stop() {
             at = end;
-            loops = 0;
         }
     }
 
@@ -1727,10 +1726,9 @@ public final class JobshellQuay {
             }
         }
 
-        /** In the code: how many choices, the end of them all, and a link to each next one. */
+        /** In the code: how many choices, and ahead of each one a link to the next one. */
         private void openChoices() {
             int place = emit(OP_CHOICES, 0);
-            raw(0);
             int link = raw(NONE);
             push(IN_CHOICE, place, 0);
             set(SECOND, link);
@@ -1750,8 +1748,7 @@ public final class JobshellQuay {
             int place = get(FIRST);
             int size = get(PIECE);
             patch(place, OP_CHOICES | size << OP_BITS);
-            patch(place + 1, used);
-            int next = codeAt(code, place + 2);
+            int next = codeAt(code, place + 1);
             for (int i = 1; i < size && next > 0; i++) {
                 patchToHere(next);
                 next = codeAt(code, next + 1);
@@ -1940,8 +1937,6 @@ public final class JobshellQuay {
                     endFiles(below.command);
                 }
             }
-            depth = 0;
-            top = shell;
             shell.status = TOO_MUCH;
         }
 
@@ -2447,20 +2442,20 @@ public final class JobshellQuay {
                     enterCaught(op, level, end);
                     break;
                 case OP_CHOICES:
-                    choose(level, command.choose(arg));
+                    goToChoice(level, end, command.choose(arg));
                     break;
                 default:
                     break;
             }
         }
 
-        /** Follows the links to the choice; behind each stands what it is. */
-        private static void choose(Level level, int choice) {
-            int place = level.at;
-            for (int i = 0; i < choice && place >= 0; i++) {
-                place = codeAt(level.code, place) + 1;
+        /** Follows the links: at each OP_NEXT and its own link stands a choice. */
+        private static void goToChoice(Level level, int second, int choice) {
+            int next = second;
+            for (int i = 0; i < choice && next >= 0; i++) {
+                level.at = next + 2;
+                next = codeAt(level.code, next + 1);
             }
-            level.at = place + 1;
         }
 
         private static void putName(Command command, Names names, int name, boolean quoted) {
@@ -2782,7 +2777,7 @@ public final class JobshellQuay {
             int end = at + 2;
             if (sign == '{') {
                 end = endOfBraces(line, at + 1, lineLength) + 1;
-                if (charOf(at + 3) == ':' && charOf(at + 2) != '#') {
+                if (charOf(at + 3) == ':') {
                     boolean has = shell.names.lengthOf(charOf(at + 2) - 'a') > 0;
                     boolean or = charOf(at + 4) == '-';
                     if (has != or) {

@@ -33,6 +33,10 @@ final class JobsTest {
     CHECKS.due("status of a job", x.job(1, 1), 1);
     CHECKS.due("status of a job", x.job(2, 1), 7);
     CHECKS.due("state of a job", x.job(2, 0), GOING);
+    CHECKS.due("status after a job", with("false;true&").status(), 0);
+    CHECKS.due("status after a job", with("false;false&").status(), 0);
+    CHECKS.due("jobs", with("{ a;}&(b)&if c;then d;fi&while e;do f;done&g(){h;}&").jobs(), 5);
+    CHECKS.due("status after a function in a job", Checks.run(with("f(){ echo;}&"), "f"), 127);
     JobshellQuay y = with("echo a>f&cat<f;echo b|cat|wc&&false&echo c&&echo d&");
     CHECKS.due("output", Checks.output(y), "a\n");
     CHECKS.due("jobs", y.jobs(), 3);

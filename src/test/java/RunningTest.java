@@ -47,6 +47,10 @@ final class RunningTest {
 
   private static void pipes() {
     CHECKS.runs("echo hi|cat", 0, "hi/");
+    CHECKS.runs("{ echo a;echo b;}|wc", 0, "4/");
+    CHECKS.runs("(echo a;echo b)|wc", 0, "4/");
+    CHECKS.runs("if true;then echo a;fi|while true;do cat;wc;break;done", 0, "a/0/");
+    CHECKS.runs("f(){ a;}|echo b;f", 127, "b/");
     CHECKS.runs("echo hi|cat|wc", 0, "3/");
     CHECKS.runs("echo a|false;echo $?;false|true;echo $?", 0, "1/0/");
     CHECKS.runs("a=1|a=2;echo x$a", 0, "x/");
@@ -128,6 +132,7 @@ final class RunningTest {
     CHECKS.runs("f(){echo $?;};false;f", 0, "1/");
     CHECKS.runs("f(){f(){echo b;};echo a;};f;f", 0, "a/b/");
     CHECKS.runs("ab(){echo $1;};a(){echo x;};ab c;abc", 127, "c/");
+    CHECKS.runs("abc(){echo 1;};abd(){echo 2;};abc(){echo 3;};bbd(){ x;};abd;abc", 0, "2/3/");
     JobshellQuay x = new JobshellQuay();
     CHECKS.goesOn(x, "f(){echo $a;}", 0, "");
     CHECKS.goesOn(x, "a=1;f", 0, "1/");
@@ -141,6 +146,7 @@ final class RunningTest {
     CHECKS.runs("f(){(local a);echo $?;};f", 0, "1/");
     CHECKS.runs("a=1;f(){local a a;a=2;local a;echo x$a;};f;echo $a", 0, "x/1/");
     CHECKS.runs("f(){local ab 1 $1;echo $?;};a=1;f a;echo $a", 0, "0/1/");
+    CHECKS.runs("f(){local ab 1 '';echo $a;};a=1;f", 0, "1/");
     CHECKS.runs("a=1;f(){local a;a=2;return 3;};f;echo $? $a", 0, "3 1/");
     CHECKS.runs("a=1;f(){local a;a=2;(echo $a;a=3);echo $a;};f", 0, "2/2/");
     CHECKS.runs("a=1;f(){local a;a=$1;if test $1 x;then f y;echo $a;fi;};f x;echo $a", 0, "x/1/");
@@ -162,6 +168,9 @@ final class RunningTest {
     CHECKS.leaves("cat<f", 1, "");
     CHECKS.leaves("echo a>f <g;echo b>>h", 0, "f= h=b/ ");
     CHECKS.leaves("echo a<g>f", 1, "");
+    CHECKS.leaves("cat<f&&>g", 1, "");
+    CHECKS.leaves("cat<f||>g", 0, "g= ");
+    CHECKS.leaves("a=$(>g) cat<f|>h", 0, "h= ");
     CHECKS.leaves("echo a>f;a=1 echo b>>f <g", 1, "f=a/ ");
     CHECKS.leaves("echo a>''", 1, "");
     CHECKS.leaves("echo a>$b", 1, "");
@@ -169,6 +178,8 @@ final class RunningTest {
     CHECKS.leaves("b='x y';echo a>$b;echo c>'*'", 0, "*=c/ x y=a/ ");
     CHECKS.leaves(">f1;echo a>f*", 0, "f*=a/ f1= ");
     CHECKS.leaves(">c;>a;>b;>ab;>aa", 0, "a= aa= ab= b= c= ");
+    CHECKS.leaves("echo 1>a;echo 2>b;echo 3>c;rm a;echo 4>d;echo 5>aa;rm c;echo 6>c;echo 7>>d", 0,
+        "aa=5/ b=2/ c=6/ d=4/7/ ");
     CHECKS.leaves(">1;>2;>3;>4;>5;>6;>7;>8;echo a>1;echo b>9", 1,
         "1=a/ 2= 3= 4= 5= 6= 7= 8= ");
     CHECKS.leaves(">1;>2;>3;>4;>5;>6;>7;>8;echo a>9||echo b>>8;echo c>>9", 1,
@@ -208,6 +219,7 @@ final class RunningTest {
     CHECKS.runs("test a", 1, "");
     CHECKS.runs("test a a a", 1, "");
     CHECKS.runs("test", 1, "");
+    CHECKS.runs("set a;shift;echo $? $#;shift;echo $?", 0, "0 0/1/");
     CHECKS.runs("test '' \"$a\"", 0, "");
     CHECKS.runs("test ab abc", 1, "");
     CHECKS.runs("set a 'b c';echo $# $2;set;echo $#", 0, "2 b c/0/");
@@ -246,6 +258,8 @@ final class RunningTest {
     CHECKS.runs("a=1;echo $(a=2;echo $a)$a", 0, "21/");
     CHECKS.runs("false;echo $(true)$?$(echo $?)", 0, "11/");
     CHECKS.runs("echo a|echo b$(cat)", 0, "b/");
+    CHECKS.runs("echo a|true;echo b$(cat)", 0, "b/");
+    CHECKS.runs("a=$(exit 3);b=1", 0, "");
     CHECKS.runs("echo $(echo $(echo $(echo a)))", 0, "a/");
     CHECKS.runs("echo {$(echo a b),c}d", 0, "a bd cd/");
     CHECKS.runs("echo * $(>f) *", 0, "* f/");

@@ -99,6 +99,10 @@ final class WordsTest {
   private static void things() {
     JobshellQuay x = with("a='p q';b=;c=12;set u 'v w' '';false");
     CHECKS.gives(x, "$c ${c} ${#c} ${#a} ${#b} ${#d}", "12", "12", "2", "3", "0", "0");
+    CHECKS.gives(x, "\"${a}\" \"${c}\" \"${#a}\" \"$#$?$1\" ${a}", "p q", "12", "3", "31u", "p",
+        "q");
+    CHECKS.gives(with("a=1"), "${a:-x} ${a:+y} ${b:-z} ${b:+z}", "1", "y", "z");
+    CHECKS.gives(x, "\"${d:-x}\"{y,z}$a ${c:-x}'$a'", "xyp", "q", "xzp", "q", "12$a");
     CHECKS.gives(x, "$1 $2 \"$2\" $3 \"$3\" $4 \"$4\" $#", "u", "v", "w", "v w", "", "", "3");
     CHECKS.gives(x, "$?$?", "11");
     CHECKS.gives(x, "${b:-x} ${d:-y} ${c:-z}", "x", "y", "12");
@@ -130,6 +134,7 @@ final class WordsTest {
         "-2147483648", "2147483647", "-2147483647");
     CHECKS.gives(x, "$(($a)) $((1,2)) $((1=1)) $((')) x", "0", "0", "0", "0", "x");
     CHECKS.gives(x, "x$((a))y$((b))", "x3y-4");
+    CHECKS.gives(with("a=-4;z=-0;y=--1;x=1-"), "$((a)) $((z)) $((y)) $((x))", "-4", "0", "0", "0");
     CHECKS.gives(x, "$((2*a*b+5*2-a))", "-17");
   }
 
@@ -161,6 +166,8 @@ final class WordsTest {
     CHECKS.gives(y, "*", "a", "aab", "ab", "abab", "b", "ba");
     CHECKS.gives(y, "a*b *ab ?*b a**a*b *?a", "aab", "ab", "abab", "aab", "ab", "abab",
         "aab", "ab", "abab", "aab", "abab", "ba");
+    CHECKS.gives(y, "ab*b ba*a b*b aa*ab ?*?*? ??*b", "abab", "ba*a", "b*b", "aa*ab", "aab", "abab",
+        "aab", "abab");
     JobshellQuay z = new JobshellQuay();
     CHECKS.gives(z, "* ?", "*", "?");
   }
