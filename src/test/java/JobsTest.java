@@ -36,6 +36,7 @@ final class JobsTest {
     CHECKS.due("status after a job", with("false;true&").status(), 0);
     CHECKS.due("status after a job", with("false;false&").status(), 0);
     CHECKS.due("jobs", with("{ a;}&(b)&if c;then d;fi&while e;do f;done&g(){h;}&").jobs(), 5);
+    CHECKS.due("jobs", with("if (true)then echo a&fi;>f&''&a=1&").jobs(), 4);
     CHECKS.due("status after a function in a job", Checks.run(with("f(){ echo;}&"), "f"), 127);
     JobshellQuay y = with("echo a>f&cat<f;echo b|cat|wc&&false&echo c&&echo d&");
     CHECKS.due("output", Checks.output(y), "a\n");

@@ -48,6 +48,7 @@ final class RunningTest {
   private static void pipes() {
     CHECKS.runs("echo hi|cat", 0, "hi/");
     CHECKS.runs("{ echo a;echo b;}|wc", 0, "4/");
+    CHECKS.runs("'echo' a|\"cat\";a=echo;$a bc|$d>f|wc", 0, "a/0/");
     CHECKS.runs("(echo a;echo b)|wc", 0, "4/");
     CHECKS.runs("if true;then echo a;fi|while true;do cat;wc;break;done", 0, "a/0/");
     CHECKS.runs("f(){ a;}|echo b;f", 127, "b/");
@@ -78,6 +79,7 @@ final class RunningTest {
     CHECKS.runs("false;while false;do x;done", 0, "");
     CHECKS.runs("a=0;while test $a 0;do a=1;false;done", 1, "");
     CHECKS.runs("while true;do false;break;done", 0, "");
+    CHECKS.runs("while true;do echo $?;break;done", 0, "0/");
     CHECKS.runs("while break;do echo a;done;echo $?", 0, "0/");
     CHECKS.runs("while true;do while true;do break;done;echo a;break;echo b;done", 0, "a/");
     CHECKS.runs("while true;do if true;then break;fi;done;break", 1, "");
@@ -233,6 +235,7 @@ final class RunningTest {
     CHECKS.runs("echo abc|wc x", 0, "4/");
     CHECKS.runs("set 1 2 3 4 5 6 7 8 9 a b c d e f g;echo $# $9 $10", 0, "15 9 10/");
     CHECKS.runs("ech a", 127, "");
+    CHECKS.runs("xcho a;echo $?;mat;zest a a;qet b;echo $? $#", 0, "127/127 0/");
     CHECKS.runs("echos a", 127, "");
   }
 
