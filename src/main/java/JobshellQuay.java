@@ -448,18 +448,19 @@ public final class JobshellQuay {
             boolean minus = false;
             boolean wanted = true;
             int at = from;
-            for (int step = 0; step < TEXT_MOST && at < to && at >= 0 && at < signs.length; step++) {
+            int end = Math.min(to, signs.length);
+            for (int step = 0; step < TEXT_MOST && at >= 0 && at < end; step++) {
                 int c = signs[at] & CHAR_MASK;
                 if (c == ' ') {
                     at++;
                 } else if (wanted) {
-                    int end = endOfOne(signs, at, to);
-                    if (end == at) {
+                    int behind = endOfOne(signs, at, end);
+                    if (behind == at) {
                         return 0;
                     }
-                    product *= isLetter(c) ? numberOf(c - 'a') : digits(signs, at, end);
+                    product *= isLetter(c) ? numberOf(c - 'a') : digits(signs, at, behind);
                     wanted = false;
-                    at = end;
+                    at = behind;
                 } else if (c == '*') {
                     wanted = true;
                     at++;
@@ -1927,7 +1928,7 @@ public final class JobshellQuay {
             going = false;
         }
 
-        /** All ends with too much: functions give back what was local, and their files get theirs. */
+        /** All ends with too much: functions give back what was local, files get their output. */
         private void endAll() {
             for (int i = Math.min(depth, LEVELS_MOST); i > 0; i--) {
                 Level level = levels[i];
@@ -2224,7 +2225,8 @@ public final class JobshellQuay {
 
         private void call(Level level, Function function) {
             Command command = level.command;
-            Level next = enter(Level.AS_FUNCTION, level, function.code, function.start, function.end);
+            int[] code = function.code;
+            Level next = enter(Level.AS_FUNCTION, level, code, function.start, function.end);
             if (next == null) {
                 return;
             }
@@ -2398,7 +2400,7 @@ public final class JobshellQuay {
                     putName(command, level.home.names, arg >> 1, quoted);
                     break;
                 case OP_PARAMETER:
-                    putParameter(command, level.params, arg >> 1, quoted);
+                    putField(command, level.params, arg >> 1, quoted);
                     break;
                 case OP_COUNT:
                     putNumber(command, level.params.count, quoted);
@@ -2464,7 +2466,7 @@ public final class JobshellQuay {
             }
         }
 
-        private static void putParameter(Command command, Fields params, int field, boolean quoted) {
+        private static void putField(Command command, Fields params, int field, boolean quoted) {
             for (int i = 0; field < params.count && i < params.lengthOf(field); i++) {
                 command.put(params.at(field, i), quoted);
             }

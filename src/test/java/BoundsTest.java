@@ -57,7 +57,8 @@ final class BoundsTest {
 
   private static void howAllEnds() {
     JobshellQuay x = new JobshellQuay();
-    Checks.run(x, "a=1;set p q;f(){local a;a=2;b=3;set r;g(){x;};echo c;while x||y||true;do z;done;}");
+    Checks.run(x, "a=1;set p q");
+    Checks.run(x, "f(){local a;a=2;b=3;set r;g(){x;};echo c;while x||y||true;do z;done;}");
     CHECKS.due("run", Checks.run(x, "f s>h"), 126);
     CHECKS.due("a", Checks.value(x, 'a'), "1");
     CHECKS.due("b", Checks.value(x, 'b'), "3");

@@ -63,7 +63,8 @@ final class TextTest {
     String[] texts = {"a", " a ", "a;", "a&", "a;b", "a&b&", "a ; b ;", "a&&b||c", "a|b|c",
         "(a)", "( a; )", "{a}", "{ a; }", "{a&}", "(a)|{b}&&c", "if a;then b;fi",
         "if (a)then(b)else {c}fi", "if a;then b;else c;d;fi;e", "while a;do b;done",
-        "while {a}do(b)done&", "while(a)do(b)done", "if a;then(b)else(c)fi", "f(){a}", "f()  { a; }", "echo(){a};b", "a=", "a=1", "a=1 b= c",
+        "while {a}do(b)done&", "while(a)do(b)done", "if a;then(b)else(c)fi", "f(){a}",
+        "f()  { a; }", "echo(){a};b", "a=", "a=1", "a=1 b= c",
         ">f", "> f", ">>f a", "a<f>g >>h", "a=1 >f b=2 c d=3", "ab=1", "a=="};
     for (String text : texts) {
       CHECKS.faultAt(text, JobshellQuay.NONE);
@@ -212,7 +213,8 @@ final class TextTest {
     CHECKS.faultAt("(a) then", 4);
     CHECKS.faultAt("if()", 3);
     CHECKS.faultAt("fi()", 0);
-    String[] words = {"a if then fi", "'if' a", "\\if", "if1 a", "if=a", "ifx", "fi1", "fi=", "\"do\"",
+    String[] words = {"a if then fi", "'if' a", "\\if", "if1 a", "if=a", "ifx", "fi1", "fi=",
+        "\"do\"",
         "a=1 if", ">f if", "a then", "if{a,b}", "if a>fi;then b;fi", "if(a)then b;fi",
         "if>f;then>f;fi", "while a;do b;done;c", "of a", "xhile b", "khen", "mlse;ii;xo;gone"};
     for (String text : words) {
