@@ -288,10 +288,9 @@ public final class JobshellQuay {
             other.taken = other.length;
         }
 
-        /** Keeps some chars and puts the other row behind them. */
-        void replaceFrom(int kept, Row other) {
-            length = Math.min(Math.max(0, kept), length);
-            taken = 0;
+        /** Becomes what the other row has, as much of it as there is room for. */
+        void copyFrom(Row other) {
+            empty();
             for (int i = 0; i < other.length && length < chars.length; i++) {
                 chars[length] = other.chars[i];
                 length++;
@@ -666,7 +665,7 @@ public final class JobshellQuay {
                 names[i] = names[i - 1];
                 texts[i] = texts[i - 1];
             }
-            freeName.replaceFrom(0, name);
+            freeName.copyFrom(name);
             freeText.empty();
             names[place] = freeName;
             texts[place] = freeText;
@@ -746,7 +745,7 @@ public final class JobshellQuay {
             if (count >= MOST) {
                 return false;
             }
-            outputs[count].replaceFrom(0, output);
+            outputs[count].copyFrom(output);
             states[count] = GOING;
             statuses[count] = status;
             count++;
@@ -874,8 +873,7 @@ public final class JobshellQuay {
         final Row fileOut;
         final Row fileName;
         boolean takes;
-        /** OP_OUT or OP_BEHIND if the output goes to a file, else NONE. */
-        int gives;
+        boolean gives;
 
         Command() {
             args = new Fields();
@@ -885,7 +883,6 @@ public final class JobshellQuay {
             fileIn = new Row(Files.TEXT_CHARS);
             fileOut = new Row(OUTPUT_MOST);
             fileName = new Row(Files.NAME_MOST);
-            gives = NONE;
             inWords = NONE;
         }
 
@@ -894,7 +891,7 @@ public final class JobshellQuay {
             left = TEXT_MOST;
             inWords = NONE;
             takes = false;
-            gives = NONE;
+            gives = false;
         }
 
         void beginWord(int what, int from, int behind) {
@@ -1988,7 +1985,7 @@ public final class JobshellQuay {
                 return;
             }
             if (op != OP_PIPE_FIRST) {
-                level.piped.replaceFrom(0, level.caught);
+                level.piped.copyFrom(level.caught);
                 level.in = level.piped;
             }
             if (op != OP_PIPE_LAST) {
@@ -2153,7 +2150,6 @@ public final class JobshellQuay {
             } else if (command.doing == OP_ASSIGN) {
                 command.assign(level.home.names, codeAt(level.code, command.start));
             } else if (!redirect(command)) {
-                command.gives = NONE;
                 level.home.status = 1;
                 skipCommand(level);
                 return;
@@ -2172,14 +2168,14 @@ public final class JobshellQuay {
             }
             if (in) {
                 command.takes = true;
-                command.fileIn.replaceFrom(0, files.texts[file]);
+                command.fileIn.copyFrom(files.texts[file]);
                 return true;
             }
             if (command.doing == OP_OUT) {
                 files.texts[file].empty();
             }
-            command.gives = command.doing;
-            command.fileName.replaceFrom(0, wanted);
+            command.gives = true;
+            command.fileName.copyFrom(wanted);
             command.fileOut.empty();
             return true;
         }
@@ -2192,24 +2188,25 @@ public final class JobshellQuay {
             level.at = place + 1;
         }
 
-        /** What was run has ended: its output goes to the file. */
+        /**
+         * What was run has ended: its output goes to the file. A file for > was made empty ahead of
+         * that, so what it has by now came into it meanwhile and stays.
+         */
         private void endFiles(Command command) {
-            if (command.gives == NONE) {
+            if (!command.gives) {
                 return;
             }
             int file = files.findOrMake(command.fileName);
             if (file != NONE) {
-                Row text = files.texts[file];
-                text.replaceFrom(command.gives == OP_OUT ? 0 : text.length, command.fileOut);
+                files.texts[file].take(command.fileOut);
             }
-            command.gives = NONE;
+            command.gives = false;
         }
 
         private void perform(Level level) {
             Command command = level.command;
             if (command.args.count == 0) {
                 level.home.status = Math.max(0, command.inWords);
-                endFiles(command);
                 return;
             }
             Function function = level.home.functionNamedBy(command.args);
@@ -2242,7 +2239,7 @@ public final class JobshellQuay {
         }
 
         private static Row outputOf(Level level) {
-            return level.command.gives != NONE ? level.command.fileOut : level.out;
+            return level.command.gives ? level.command.fileOut : level.out;
         }
 
         // -- tools

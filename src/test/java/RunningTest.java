@@ -12,6 +12,7 @@ final class RunningTest {
     locals();
     redirections();
     endsOfRedirections();
+    redirectionsWithoutWords();
     tools();
     ends();
     commandsInWords();
@@ -200,6 +201,18 @@ final class RunningTest {
     CHECKS.leaves("f(){echo a;rm g;echo b;};f>g", 0, "g=a/b/ ");
     CHECKS.leaves("f(){echo a;rm g;};echo x>g;f>>g", 0, "g=a/ ");
     CHECKS.leaves("f(){echo a;echo b>>g;};echo x>g;f>>g", 0, "g=x/b/a/ ");
+    CHECKS.leaves("g(){echo b>>y;};g>y", 0, "y=b/ ");
+    CHECKS.leaves("g(){echo b>>y;echo a;};echo x>y;g>y", 0, "y=b/a/ ");
+    CHECKS.leaves("g(){echo a;echo b>y;echo c;};g>y", 0, "y=b/a/c/ ");
+    CHECKS.leaves("g(){echo b>>y;cat<y;>y;};g>y", 0, "y=b/ ");
+    CHECKS.leaves("g(){echo a;echo b>>y;rm y;};g>y", 0, "y=a/ ");
+    CHECKS.leaves("g(){echo b>>y;};g>y;g>y;g>>y", 0, "y=b/b/ ");
+    CHECKS.leaves("g(){echo b;h>y;echo c;};h(){echo d;echo e>>y;};g>y", 0, "y=e/d/b/c/ ");
+    CHECKS.leaves("g(){echo a;echo b>>y;exit 2;};(g>y);echo c>>y", 0, "y=b/a/c/ ");
+    CHECKS.leaves("g(){echo a;echo b>>y;while true;do a;done;};g>y", 126, "y=b/a/ ");
+    CHECKS.leaves("g(){a=12345678901234567890123456789;echo $a$a>>y;echo b;};g>y", 0,
+        "y=1234567890123456789012345678912345678901234567890123456789/b ");
+    CHECKS.leaves("(echo a>>y;echo b)|cat>y", 0, "y=b/ ");
     CHECKS.leaves("f(){echo a;return 3;};f>g", 3, "g=a/ ");
     CHECKS.leaves("f(){echo a;exit 3;};f>g;echo b", 3, "g=a/ ");
     CHECKS.leaves("f(){echo a;h>>i;};h(){echo b;exit;};f>g", 0, "g=a/ i=b/ ");
@@ -211,6 +224,22 @@ final class RunningTest {
     CHECKS.leaves("rm f>f", 0, "f= ");
     CHECKS.leaves("exit 3>f", 3, "f= ");
     CHECKS.leaves("while true;do break>f;done", 0, "f= ");
+  }
+
+  private static void redirectionsWithoutWords() {
+    CHECKS.leaves("a=$(echo b>y)>y", 0, "y=b/ ");
+    CHECKS.leaves("a=$(echo b>y)>>y", 0, "y=b/ ");
+    CHECKS.leaves("echo c>y;a=$(echo b>>y)>y", 0, "y=b/ ");
+    CHECKS.leaves("echo c>y;a=$(echo b>>y)>>y", 0, "y=c/b/ ");
+    CHECKS.leaves("a=$(rm y)>y", 0, "");
+    CHECKS.leaves("echo c>y;a=$(rm y)>>y", 0, "");
+    CHECKS.leaves(">y >$(echo b>>y;echo z)", 0, "y=b/ z= ");
+    CHECKS.leaves("a=$(rm y)>y;echo b>>y", 0, "y=b/ ");
+    CHECKS.leaves("a=$(rm y)>y true", 0, "y= ");
+    CHECKS.leaves("a=$(echo b>y)>y echo c", 0, "y=b/c/ ");
+    CHECKS.leaves("a=$(rm y;false)>y", 1, "");
+    CHECKS.leaves("f(){a=$(rm y)>y;};f>z", 0, "z= ");
+    CHECKS.runs("a=$(echo b>y)>y;echo c;cat<y", 0, "c/b/");
   }
 
   private static void tools() {
