@@ -56,6 +56,43 @@ final class Checks {
     return shell.run();
   }
 
+  /** A new shell in which these texts were run, one behind the other. */
+  static JobshellQuay after(String... texts) {
+    JobshellQuay shell = new JobshellQuay();
+    for (String text : texts) {
+      run(shell, text);
+    }
+    return shell;
+  }
+
+  static String times(String part, int count) {
+    return part.repeat(count);
+  }
+
+  /** So many chars, of which each tenth tells how many there are. */
+  static String chars(int count) {
+    return "1234567890".repeat(count / 10 + 1).substring(0, count);
+  }
+
+  /** All that can be asked of a shell without a change. */
+  static String told(JobshellQuay shell) {
+    StringBuilder all = new StringBuilder();
+    all.append(shell.status()).append(' ').append(output(shell)).append(' ').append(files(shell));
+    for (char name = 'a'; name <= 'z'; name++) {
+      all.append(name).append('=').append(value(shell, name)).append(' ');
+    }
+    for (int job = 0; job < shell.jobs(); job++) {
+      for (int what = 0; what < 3; what++) {
+        all.append(shell.job(job, what)).append(' ');
+      }
+    }
+    all.append(shell.fault()).append(' ').append(shell.fields());
+    for (int field = 0; field < shell.fields(); field++) {
+      all.append(' ').append(field(shell, field)).append(' ').append(fieldAnew(shell, field));
+    }
+    return all.toString();
+  }
+
   static String output(JobshellQuay shell) {
     StringBuilder all = new StringBuilder();
     for (int i = 0; i < shell.size(); i++) {
