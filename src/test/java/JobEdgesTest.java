@@ -306,7 +306,8 @@ final class JobEdgesTest {
   }
 
   private static void fullOutput() {
-    String[] texts = {"a=" + Checks.chars(97), "echo $a;echo $a;echo $a", "(echo bcdefghi;echo j)&"};
+    String[] texts = {"a=" + Checks.chars(97), "echo $a;echo $a;echo $a",
+        "(echo bcdefghi;echo j)&"};
     JobshellQuay x = after(texts);
     CHECKS.due("size", x.size(), 294);
     CHECKS.due("pass", x.pass(1), 1);

@@ -159,8 +159,8 @@ final class ModelTest {
       case 16: return "while " + ended(deep + 1) + "do " + ended(deep + 1) + one("", "break;")
           + "done";
       case 17: return "a=0;while test $a 0;do " + list(deep + 1) + ";a=1;done";
-      case 18: case 19: return one("u", "v") + "()" + one("", " ") + "{" + list(deep + 1) + one("", ";", "&")
-          + "}";
+      case 18: case 19: return one("u", "v") + "()" + one("", " ") + "{" + list(deep + 1)
+          + one("", ";", "&") + "}";
       default: return simple(deep);
     }
   }

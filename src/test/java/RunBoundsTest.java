@@ -174,7 +174,8 @@ final class RunBoundsTest {
   // ---- how all ends
 
   private static void endsWithFilesAndOutputAsTheyAre() {
-    JobshellQuay x = after("echo a;echo b>f;>g;rm g;(echo c);echo d|cat;while true;do x;done;echo e");
+    JobshellQuay x = after("echo a;echo b>f;>g;rm g;(echo c);echo d|cat;"
+        + "while true;do x;done;echo e");
     CHECKS.due("status", x.status(), 126);
     CHECKS.due("output", Checks.output(x), "a\nc\nd\n");
     CHECKS.due("files", Checks.files(x), "f=b/ ");

@@ -546,8 +546,8 @@ final class RunEdgesTest {
     String[][] due = {{"0", "0"}, {"1", "1"}, {"254", "254"}, {"255", "255"}, {"256", "0"},
         {"257", "1"}, {"511", "255"}, {"512", "0"}, {"-0", "0"}, {"-1", "255"}, {"-255", "1"},
         {"-256", "0"}, {"-257", "255"}, {"007", "7"}, {"999999999", "255"}, {"-999999999", "1"},
-        {"1000000000", "9"}, {"-1000000000", "9"}, {"1x", "9"}, {"-", "9"}, {"--1", "9"}, {"+1", "9"},
-        {"''", "9"}, {"' 1'", "9"}, {"x", "9"}};
+        {"1000000000", "9"}, {"-1000000000", "9"}, {"1x", "9"}, {"-", "9"}, {"--1", "9"},
+        {"+1", "9"}, {"''", "9"}, {"' 1'", "9"}, {"x", "9"}};
     for (String[] one : due) {
       int status = Integer.parseInt(one[1]);
       CHECKS.runs("(exit 9);exit " + one[0], status, "");
@@ -568,7 +568,7 @@ final class RunEdgesTest {
         "local", "rm", "break", "return", "exit"}) {
       CHECKS.runs("a=" + tool + ";" + tool + "(){a=f$1;};" + tool + " x;'echo' $a", 0,
           tool.equals("echo") ? "" : "fx/");
-      CHECKS.due("a of " + tool, Checks.value(after(tool + "(){a=f$1;};" + tool + " x"), 'a'), "fx");
+      value(tool + "(){a=f$1;};" + tool + " x", 'a', "fx");
     }
     CHECKS.runs("f(){ false;};f", 1, "");
     CHECKS.runs("f(){echo a;};'f';\\f;a=f;$a;\"$a\"", 0, "a/a/a/a/");

@@ -111,8 +111,8 @@ final class TextEdgesTest {
 
   private static void blanksEndWords() {
     for (String text : new String[] {" a", "a ", "a ;b", "a; b", "a &", "a |b",
-        "a| b", "a &&b", "a&& b", "( a)", "(a )", "{ a }", "f()  {a}", "f(){ a }", "if  a;then b;fi",
-        "while a ; do b ; done", "a >  f", "a=1  b", "  a  b  "}) {
+        "a| b", "a &&b", "a&& b", "( a)", "(a )", "{ a }", "f()  {a}", "f(){ a }",
+        "if  a;then b;fi", "while a ; do b ; done", "a >  f", "a=1  b", "  a  b  "}) {
       fits(text);
     }
     CHECKS.faultAt("a & & b", 4);
@@ -290,8 +290,8 @@ final class TextEdgesTest {
 
   private static void afterAFault() {
     JobshellQuay x = new JobshellQuay();
-    for (String text : new String[] {"a b 'c", "a>b c=d e{f", "a $(b $(c d", "a=b c=d >e {", "((a|b&&c",
-        "if a;then b", "\"${a:-\"b", "f(){a b c", "a {b,{c,d"}) {
+    for (String text : new String[] {"a b 'c", "a>b c=d e{f", "a $(b $(c d", "a=b c=d >e {",
+        "((a|b&&c", "if a;then b", "\"${a:-\"b", "f(){a b c", "a {b,{c,d"}) {
       Checks.type(x, text);
       CHECKS.due("fault of " + text, x.fault() != NONE ? 1 : 0, 1);
       CHECKS.thrown("run of " + text, IllegalStateException.class, () -> x.run());

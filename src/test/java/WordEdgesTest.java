@@ -64,7 +64,8 @@ final class WordEdgesTest {
     for (String none : new String[] {";", "a;", "a ;", "a&", "a|b", "a&&b", "(a)", "a)", "f()", ">",
         "a>b", "<a", "{ a", "{", "{}", "{a}", "a }", "}", "$", "$0", "'", "\"", "\\", "${", "${a",
         "${a:-{b,c}}", "$((", "$((1)", "$(a)", "$()", "$(", "\"$(a)\"", "{$(a),b}", "{b,\"$(a)\"}",
-        "${a:-$(b)}", "${a:+$(b)}", "\"${a:-$(b)}\"", "a=$(b)", "x $(y) z", "{,${a:-${b:+$(c)}}}"}) {
+        "${a:-$(b)}", "${a:+$(b)}", "\"${a:-$(b)}\"", "a=$(b)", "x $(y) z",
+        "{,${a:-${b:+$(c)}}}"}) {
       CHECKS.noRow(none);
     }
     CHECKS.gives(x, "'$(a)' \\$\\(a\\) $((1))", "$(a)", "$(a)", "1");
@@ -100,7 +101,8 @@ final class WordEdgesTest {
           if (way > 1) {
             x.fault();
           }
-          CHECKS.due("a char of " + one[0], way % 2 == 0 ? x.fieldAnew(0, 0) : x.fieldAt(0, 0), due);
+          int got = way % 2 == 0 ? x.fieldAnew(0, 0) : x.fieldAt(0, 0);
+          CHECKS.due("a char of " + one[0], got, due);
         }
       }
     }
@@ -440,8 +442,9 @@ final class WordEdgesTest {
   private static void noSuchSums() {
     JobshellQuay x = after("a=1;b=2");
     for (String none : new String[] {"", " ", "+", "-", "*", "1+", "+1", "-1", "*1", "1-", "1*",
-        "1++1", "1--1", "1**1", "1+-1", "1 1", "a b", "ab", "a1", "1a", "1,1", "1=1", "$a", "#", "'1'",
-        "\"1\"", "1;1", "?", "1:1", "\\1", "1&1", "1|1", "1>0", "{a}", "1+ +1", "1 + a b"}) {
+        "1++1", "1--1", "1**1", "1+-1", "1 1", "a b", "ab", "a1", "1a", "1,1", "1=1", "$a", "#",
+        "'1'", "\"1\"", "1;1", "?", "1:1", "\\1", "1&1", "1|1", "1>0", "{a}", "1+ +1",
+        "1 + a b"}) {
       CHECKS.gives(x, "x$((" + none + "))y", "x0y");
     }
   }
