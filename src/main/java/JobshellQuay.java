@@ -431,7 +431,7 @@ public final class JobshellQuay {
         /** The number that isNumber has found there. */
         static int numberIn(char[] chars, int from, int to) {
             int number = 0;
-            for (int i = Math.max(from, 0); i < to && i < chars.length; i++) {
+            for (int i = from < 0 ? 0 : from; i < to && i < chars.length; i++) {
                 if (chars[i] != '-') {
                     number = number * 10 + chars[i] - '0';
                 }
@@ -490,7 +490,7 @@ public final class JobshellQuay {
 
         private static int digits(int[] signs, int from, int to) {
             int number = 0;
-            for (int i = Math.max(from, 0); i < to && i < signs.length; i++) {
+            for (int i = from < 0 ? 0 : from; i < to && i < signs.length; i++) {
                 number = number * 10 + (signs[i] & CHAR_MASK) - '0';
             }
             return number;
@@ -570,7 +570,7 @@ public final class JobshellQuay {
                 chars[i] = other.chars[i];
             }
             count = 0;
-            for (int field = Math.max(0, first); field < other.count; field++) {
+            for (int field = first < 0 ? 0 : first; field < other.count; field++) {
                 starts[count] = other.starts[field];
                 ends[count] = other.ends[field];
                 count++;
